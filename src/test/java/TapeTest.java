@@ -107,7 +107,7 @@ public final class TapeTest {
         Check.put(low, -2, 1);
         Check.due("-2^31 is an int", low.times(), 1);
         Check.due("polynomial", Check.polynomial(low), "[-2147483648, 1073741824]");
-        // sums of products that are 2^64, 2^63 or -2^63: a long would come round to an int
+        // products whose sums leave the range of a long
         FactorDesk square = Check.desk(LOW, LOW, LOW, LOW);
         Check.put(square, LOW, LOW, LOW, LOW);
         Check.due("a sum 2^64", Check.answer(square::times), "IllegalStateException");
