@@ -158,9 +158,7 @@ public final class FactorDesk {
         }
         useUpTape(operand, top);
         operand.makePrimitive();
-        result.copyFrom(polynomial);
-        result.makePrimitive();
-        return division.goesEvenly(result, operand);
+        return division.goesEvenly(polynomial, operand);
     }
 
     public long value(long x, int m) throws IllegalArgumentException {

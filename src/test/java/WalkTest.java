@@ -2,12 +2,13 @@ import java.math.BigInteger;
 import java.util.Random;
 
 /**
- * Long runs of calls of all kinds, right and wrong ones, beside a plain model of the desk in
+ * Runs of calls of all kinds, right and wrong ones, beside a plain model of the desk in
  * BigIntegers. Factors are held against what they must be: primitive, in order, different, with
  * the polynomial as their product; that they are irreducible, KnownTest and FactorsTest see.
  */
 public final class WalkTest {
-    private static final int CALLS = 511;
+    /** A step makes some five calls, and an object is used for at most 512 of them. */
+    private static final int STEPS = 70;
 
     private final Random random;
     private final FactorDesk desk = new FactorDesk();
@@ -22,9 +23,9 @@ public final class WalkTest {
     }
 
     public static void main(String[] args) {
-        for (int seed = 1; seed <= 60; seed++) {
+        for (int seed = 1; seed <= 400; seed++) {
             WalkTest walk = new WalkTest(seed);
-            for (int i = 0; i < CALLS; i++) {
+            for (int i = 0; i < STEPS; i++) {
                 walk.step();
             }
             walk.compareState();
