@@ -7,8 +7,13 @@ import java.util.Random;
  * the polynomial as their product; that they are irreducible, KnownTest and FactorsTest see.
  */
 public final class WalkTest {
-    /** A step makes some five calls, and an object is used for at most 512 of them. */
-    private static final int STEPS = 70;
+    private static final int WALKS = 800;
+    /**
+     * An object is used for 512 calls at most. What stays is for one step more and the last look at
+     * the state: the told factors cost 85 calls at most, a step 15 beside them, a polynomial and a
+     * divisor 53.
+     */
+    private static final int ENOUGH = 512 - (85 + 15) - (85 + 53 + 1);
 
     private final Random random;
     private final FactorDesk desk = new FactorDesk();
@@ -17,15 +22,16 @@ public final class WalkTest {
     private BigInteger[] polynomial = {BigInteger.ONE};
     private BigInteger[] divisor = {BigInteger.ONE};
     private String told = "";
+    private int calls = 0;
 
     private WalkTest(long seed) {
         random = new Random(seed);
     }
 
     public static void main(String[] args) {
-        for (int seed = 1; seed <= 400; seed++) {
+        for (int seed = 1; seed <= WALKS; seed++) {
             WalkTest walk = new WalkTest(seed);
-            for (int i = 0; i < STEPS; i++) {
+            while (walk.calls <= ENOUGH) {
                 walk.step();
             }
             walk.compareState();
@@ -34,6 +40,7 @@ public final class WalkTest {
     }
 
     private void step() {
+        calls++;
         switch (random.nextInt(22)) {
             case 0 -> clear();
             case 1, 2 -> take();
@@ -105,20 +112,21 @@ public final class WalkTest {
     }
 
     private void factors() {
-        int count = desk.factors();
+        desk.factors();
         told = Check.told(desk);
         BigInteger[] all = {BigInteger.valueOf(desk.content())};
-        int degrees = 0;
-        for (int i = 0; i < count; i++) {
-            BigInteger[] part = new BigInteger[desk.factor(i, 0) + 1];
-            for (int k = 0; k < part.length; k++) {
-                part[k] = BigInteger.valueOf(desk.part(i, k));
-            }
+        BigInteger[] latest = null;
+        int count = 0;
+        for (String factor : told.isEmpty() ? new String[0] : told.split(" (?=\\[)")) {
+            BigInteger[] part = coefficients(factor);
             Check.due("content of a factor", content(part), BigInteger.ONE);
-            Check.due("in order", i == 0 || inOrder(i), true);
-            for (int often = 0; often < desk.factor(i, 1); often++) {
+            Check.due("in order", latest == null || isBefore(latest, part), true);
+            latest = part;
+            int multiplicity = Integer.parseInt(factor.substring(factor.indexOf('^') + 1));
+            Check.due("multiplicity", multiplicity > 0, true);
+            for (int often = 0; often < multiplicity; often++) {
                 all = multiply(all, part);
-                degrees++;
+                count++;
             }
         }
         Check.due("product of all factors", text(all), text(polynomial));
@@ -126,20 +134,34 @@ public final class WalkTest {
         for (int degree = 1; degree <= 12; degree++) {
             sum += desk.ofDegree(degree);
         }
-        Check.due("factors of all degrees", sum, degrees);
-        Check.due("isIrreducible", desk.isIrreducible(), degrees == 1 && desk.content() == 1);
+        Check.due("factors of all degrees", sum, count);
+        boolean alone = count == 1 && content(polynomial).equals(BigInteger.ONE);
+        Check.due("isIrreducible", desk.isIrreducible(), alone);
+        calls += 14 + toldCalls();
     }
 
-    private boolean inOrder(int i) {
-        int degree = desk.factor(i, 0);
-        if (degree != desk.factor(i - 1, 0)) {
-            return degree > desk.factor(i - 1, 0);
+    /** How many calls Check.told makes for the factors that are told now. */
+    private int toldCalls() {
+        int factors = told.length() - told.replace("^", "").length();
+        int degrees = told.length() - told.replace(",", "").length();
+        return 1 + 5 * factors + 2 * degrees;
+    }
+
+    private static BigInteger[] coefficients(String factor) {
+        String[] words = factor.substring(1, factor.indexOf(']')).split(", ");
+        BigInteger[] row = new BigInteger[words.length];
+        for (int k = 0; k < row.length; k++) {
+            row[k] = new BigInteger(words[k]);
         }
-        int k = degree;
-        while (k > 0 && desk.part(i, k) == desk.part(i - 1, k)) {
-            k--;
+        return row;
+    }
+
+    private static boolean isBefore(BigInteger[] one, BigInteger[] two) {
+        int order = Integer.compare(one.length, two.length);
+        for (int k = one.length - 1; k >= 0 && order == 0; k--) {
+            order = one[k].compareTo(two[k]);
         }
-        return desk.part(i, k) > desk.part(i - 1, k);
+        return order < 0;
     }
 
     private void common() {
@@ -159,6 +181,7 @@ public final class WalkTest {
         Check.due("common", Check.answer(desk::common), String.valueOf(one.length - 1));
         taped = 0;
         Check.due("divisor", Check.divisor(desk), text(divisor));
+        calls += 13 + divisor.length;
     }
 
     private void divides() {
@@ -193,11 +216,14 @@ public final class WalkTest {
         int i = random.nextInt(16) - 1;
         Check.due("at", Check.answer(() -> desk.at(i)), i < 0 || i > 12 ? "IllegalArgumentException"
                 : i < polynomial.length ? polynomial[i].toString() : "0");
+        calls += 2 + toldCalls();
     }
 
     private void compareState() {
         Check.due("state", Check.state(desk), text(polynomial) + " " + told + " " + text(divisor));
         Check.due("clear", desk.clear(), taped);
+        calls += 2 * polynomial.length + 1 + toldCalls() + 13 + divisor.length + 1;
+        Check.due("calls on an object (" + calls + ") are 512 at most", calls <= 512, true);
     }
 
     private static String text(BigInteger[] row) {
